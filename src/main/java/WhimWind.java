@@ -1337,7 +1337,7 @@ public final class WhimWind {
             return givers;
         }
 
-        /** The order is that of RuleReader's names. */
+        /** The order is that of the names in Tape. */
         private void tell(Plateau told, State state, int p) {
             words[0] = p;
             words[1] = state.urge[p];
