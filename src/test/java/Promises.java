@@ -285,6 +285,14 @@ public final class Promises {
         due("values and facts, sixty", tellRule(y, "whim 1 if 1" + many("+1", 56) + "=1"), 2);
         due("ten deep", tellRule(y, "whim 1 if " + many("[", 10) + "1=1" + many("]", 10)), 3);
         due("ten nots", tellRule(y, "whim 1 if " + many("not ", 10) + "1=1 and " + many("not ", 10) + "1=1"), 4);
+        WhimWind z = new WhimWind();
+        for (int i = 0; i < 12; i++) {
+            due("long ones at fault", tellRule(z, "whim 1 if 1=1" + many(" or 1=1", 17) + "+?"), -2 - at(133, 0));
+        }
+        due("then one that is sound", tellRule(z, "whim 1 if 1=1" + many(" and 1=1", 16) + "; whim 0"), 0);
+        tellPlateau(z, "plateau 2 1;person 0 9 0");
+        z.force(0);
+        due("and means what it says", z.hour(), 1);
         due("without blanks", tellRule(y, "whim1if[urge>1]or[not[off=0]]and hour<=3"), 5);
     }
 
@@ -319,6 +327,11 @@ public final class Promises {
         due("not in a sum", ruleFault("whim not 1"), at(5, 0));
         due("not behind a fact", ruleFault("whim 1 if 1=1 not 1=1"), at(14, 0));
         due("an end behind a semicolon", ruleFault("whim 1; "), at(8, 0));
+        due("a word that goes on", ruleFault("whim urgez"), at(5, 0));
+        due("a word with another first letter", ruleFault("whim zrge"), at(5, 0));
+        due("a word with another last letter", ruleFault("whim urga"), at(5, 0));
+        due("deep behind a not", ruleFault("whim 1 if not 1=1 and " + many("not ", 11) + "1=1"), at(62, 2));
+        due("deep behind signs", ruleFault("whim 1 if [[1+1*1=2 and " + many("[", 9)), at(32, 2));
         due("words run together", ruleFault("whim urgeif 1=1"), at(5, 0));
         due("a minus ahead", ruleFault("whim -1"), at(5, 0));
         due("deep brackets", ruleFault("whim 1 if " + many("[", 11) + "1=1"), at(20, 2));
@@ -353,6 +366,8 @@ public final class Promises {
         gives("whim 0 if 1 = 1; whim 1", false);
         gives("whim 1 if 1 = 2; whim 0; whim 1", false);
         gives("whim 0 if 1 = 2; whim 1", true);
+        gives("whim 1 if 1 = 2" + many(";whim 1 if 1 = 2", 11), false);
+        gives("whim 1 if 1 = 2" + many(";whim 1 if 1 = 2", 10) + "; whim 1", true);
         gives("whim 2 - 1 - 1", false);
         gives("whim 2 + 3 * 4 - 13", true);
         gives("whim 2 + 3 * 4 - 14", false);
@@ -803,6 +818,7 @@ public final class Promises {
         x.hour();
         due("all that is ground counts", x.stand(0, 1, 2), 2);
         due("where they are, too", x.stand(1, 1, 0), 1);
+        due("nowhere behind the last row", on("plateau 2 9;person 0 0 0;mill 2 9").stand(0, 3, 2), 0);
         due("n 0", x.stand(0, 0, 0), -1);
         due("n 61", x.stand(0, 61, 0), -1);
         due("n 60", x.stand(0, 60, 1), 0);
@@ -987,12 +1003,18 @@ public final class Promises {
         due("in 3 one's way 1 is best", x.rests(0, 1, 3, 0), 4);
         due("in 3 it is 1", x.rests(0, 1, 3, 1), 1);
         due("in 2 all are as good", x.rests(0, 1, 2, 0), 16);
+        x = by("plateau 2 1;person 0 9 0;person 1 9 0", "whim 1 if hour = 0;"
+            + "whim 1 if person = 0 and [wind > 0 and faces = 1 or wind = 0 and faces = 2];"
+            + "whim 1 if person = 1 and [wind > 0 and faces = 2 or wind = 0 and faces = 3]");
+        due("one runs after the other", x.rests(0, 1, 2, 0), 0);
+        due("no first", x.rests(0, 1, 2, 1), -2);
+        due("no first", x.rests(0, 1, 2, 2), -2);
         due("one and the same", x.rests(1, 1, 1, 0), -1);
         due("person 2", x.rests(0, 2, 1, 0), -1);
         due("person -1", x.rests(-1, 1, 1, 0), -1);
         due("n 0", x.rests(0, 1, 0, 0), -1);
         due("n 21", x.rests(0, 1, 21, 0), -1);
-        due("n 20", x.rests(0, 1, 20, 1), 1);
+        due("n 20", x.rests(0, 1, 20, 0) >= 0 ? 1 : 0, 1);
         due("what 3", x.rests(0, 1, 1, 3), -1);
         due("what -1", x.rests(0, 1, 1, -1), -1);
     }
@@ -1068,6 +1090,11 @@ public final class Promises {
         due("none such", x.ruled(0), 0);
         due("none such", x.ruled(1), -2);
         x.note(-1, 0, 0);
+        for (int n = 0; n < 10; n++) {
+            x.note(n, 4, 1);
+        }
+        due("ten notes", x.ruled(1), 0);
+        x.note(-1, 0, 0);
         x.note(59, 4, 0);
         x.hour();
         x.place(0, 0);
@@ -1098,6 +1125,14 @@ public final class Promises {
         due("fully", x.look(2, 1), 1);
         due("nowhere in hour 0", x.look(0, 0), 0);
         due("both alike", x.look(0, 1), 2);
+        WhimWind y = on("plateau 2 9;person 0 20 1");
+        for (int r = 0; r < 6; r++) {
+            tellRule(y, "whim 1 if hour = " + r);
+        }
+        y.note(5, 1, 6);
+        due("the last rule alone", y.ruled(1), 5);
+        due("first cell", y.look(7, 0), 0);
+        due("one is alike", y.look(7, 1), 1);
         x.note(2, 1, 9);
         due("no rule is so", x.look(2, 0), -2);
         due("no rule is so", x.look(2, 1), -2);
@@ -1147,6 +1182,7 @@ public final class Promises {
         due("p 101", x.notions(1, 1, 101, 0), -1);
         due("what 2", x.notions(1, 1, 0, 2), -1);
         due("what -1", x.notions(1, 1, 0, -1), -1);
+        due("somebody alone", on("plateau 2 1;person 0 9 1;mill 1 20").notions(1, 1, 1, 0), 10);
         due("nobody", on("plateau 2 1;mill 0 1").notions(10, 60, 100, 0), 0);
         // From x 12345 on 21468 is drawn first: 68; then 9988, of which the rest by 3 is 1.
         WhimWind y = on("plateau 2 9;person 0 9 1;person 2 9 1;person 3 9 3;mill 1 20;mill 3 19;mill 2 20");
@@ -1220,6 +1256,10 @@ public final class Promises {
         due("wind", x.wind(4), 3);
         due("cell", x.person(0, 0), 3);
         due("what is noted", x.ruled(1), -1);
+        x.note(-1, 0, 0);
+        x.note(1, 7, 1);
+        x.back(0);
+        due("what is noted, of none alone", x.ruled(0), 1);
         due("undo as it was", x.undo(), 2);
         due("hour 2", x.count(7), 2);
         due("again", x.back(0), 3);
