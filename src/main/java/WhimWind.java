@@ -416,7 +416,12 @@ public final class WhimWind {
         if (what == 0) {
             return Integer.bitCount(fitting);
         }
-        return fitting == 0 ? NO_SUCH : Integer.numberOfTrailingZeros(fitting) - 1;
+        for (int r = NONE; r < RULES; r++) {
+            if ((fitting >> (r + 1) & 1) != 0) {
+                return r;
+            }
+        }
+        return NO_SUCH;
     }
 
     public int look(int n, int what) {
@@ -1635,7 +1640,10 @@ public final class WhimWind {
             trial.copyFrom(now.state);
             trial.faces[one] = two / WAYS;
             trial.faces[other] = two % WAYS;
-            goOn(n, NONE);
+            Rule rule = inForce();
+            for (int i = 0; i < n; i++) {
+                weather.pass(now.told, rule, trial, NONE);
+            }
             oneHas[two] = trial.acted[one] - now.state.acted[one];
             otherHas[two] = trial.acted[other] - now.state.acted[other];
         }
