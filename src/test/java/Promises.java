@@ -1,79 +1,11 @@
 /** Each promise of the document by hand: ordinary inputs, the edges that it names, wrong inputs. */
-public final class Promises {
-    private static int wrong = 0;
-    private static int promise = 0;
-    private static int checks = 0;
-
-    private static void due(String what, int got, int want) {
-        checks++;
-        if (got != want) {
-            wrong++;
-            System.out.println("promise " + promise + ": " + what + " answered " + got + ", due is " + want);
-        }
-    }
-
-    private static void feedText(WhimWind x, String text) {
-        for (int at = 0; at < text.length(); at += 20) {
-            int[] a = new int[5];
-            for (int i = 0; i < 20; i++) {
-                int c = at + i < text.length() ? text.charAt(at + i) & 255 : 0;
-                a[i / 4] = a[i / 4] << 8 | c;
-            }
-            x.feed(a[0], a[1], a[2], a[3], a[4]);
-        }
-        x.end(text.length());
-    }
-
-    private static int tellPlateau(WhimWind x, String text) {
-        feedText(x, text);
-        return x.plateau();
-    }
-
-    private static int tellRule(WhimWind x, String text) {
-        feedText(x, text);
-        return x.rule();
-    }
-
-    private static WhimWind on(String text) {
-        WhimWind x = new WhimWind();
-        if (tellPlateau(x, text) < 0) {
-            due("a plateau that is sound: " + text, -1, 0);
-        }
-        return x;
-    }
-
-    /** A plateau with a rule IN FORCE. */
-    private static WhimWind by(String text, String rule) {
-        WhimWind x = on(text);
-        due("a rule that is sound: " + rule, tellRule(x, rule), 0);
-        x.force(0);
-        return x;
-    }
-
-    private static void hours(WhimWind x, int n) {
-        for (int i = 0; i < n; i++) {
-            x.hour();
-        }
-    }
-
+public final class Promises extends Bench {
     private static int plateauFault(String text) {
         return -2 - tellPlateau(new WhimWind(), text);
     }
 
     private static int ruleFault(String text) {
         return -2 - tellRule(new WhimWind(), text);
-    }
-
-    private static int at(int place, int kind) {
-        return 1 + 8 * place + kind;
-    }
-
-    private static String many(String text, int n) {
-        StringBuilder all = new StringBuilder();
-        for (int i = 0; i < n; i++) {
-            all.append(text);
-        }
-        return all.toString();
     }
 
     public static void main(String[] args) {
@@ -118,10 +50,7 @@ public final class Promises {
         count();
         image();
         back();
-        System.out.println(wrong == 0 ? checks + " answers are as due" : wrong + " answers are not as due");
-        if (wrong != 0) {
-            System.exit(1);
-        }
+        finish();
     }
 
     private static void newObject() {
