@@ -11,6 +11,7 @@ public final class BoundariesOfHours extends Bench {
         steady();
         sums();
         clauses();
+        facts();
         arithmetic();
         round();
         words();
@@ -201,6 +202,35 @@ public final class BoundariesOfHours extends Bench {
         gives("whim 1 if 1=1" + many(" and 1=1", 17) + " and 1=2", false);
         gives("whim 1" + many("+1", 58) + "-59", false);
         gives("whim 1" + many("+1", 58) + "-58", true);
+    }
+
+    /** Each SIGN within not, and, or and brackets: not is of the FACT, and of PARTS ahead of or. */
+    private static void facts() {
+        promise = 11;
+        String[] so = {"1 < 2", "2 <= 2", "5 = 5", "7 >= 7", "9 > 3"};
+        String[] notSo = {"2 < 2", "3 <= 2", "5 = 6", "6 >= 7", "3 > 3"};
+        for (int i = 0; i < 5; i++) {
+            gives("whim 1 if not " + so[i], false);
+            gives("whim 1 if not " + notSo[i], true);
+            gives("whim 1 if not [" + so[i] + "]", false);
+            gives("whim 1 if not not " + so[i], true);
+            for (int j = 0; j < 5; j++) {
+                gives("whim 1 if " + so[i] + " and " + so[j], true);
+                gives("whim 1 if " + so[i] + " and " + notSo[j], false);
+                gives("whim 1 if " + notSo[i] + " and " + so[j], false);
+                gives("whim 1 if " + notSo[i] + " or " + notSo[j], false);
+                gives("whim 1 if " + so[i] + " or " + notSo[j], true);
+                gives("whim 1 if " + notSo[i] + " or " + so[j], true);
+                gives("whim 1 if not " + notSo[i] + " and " + so[j], true);
+                gives("whim 1 if not " + so[i] + " or " + so[j], true);
+                gives("whim 1 if not [" + so[i] + " or " + so[j] + "]", false);
+                gives("whim 1 if not [" + so[i] + " and " + notSo[j] + "]", true);
+                gives("whim 1 if " + so[i] + " or " + so[j] + " and " + notSo[i], true);
+                gives("whim 1 if [" + so[i] + " or " + so[j] + "] and " + notSo[i], false);
+                gives("whim 1 if " + notSo[i] + " and " + so[j] + " or " + so[i], true);
+                gives("whim 1 if " + notSo[i] + " and [" + so[j] + " or " + so[i] + "]", false);
+            }
+        }
     }
 
     private static void arithmetic() {

@@ -17,11 +17,13 @@ public final class BoundariesOfQuestions extends Bench {
         turn();
         betterWays();
         takes();
+        lastPerson();
         blown();
         still();
         lull();
         harvest();
         rests();
+        restsOfWind();
         pence();
         penceLeft();
         note();
@@ -161,6 +163,7 @@ public final class BoundariesOfQuestions extends Bench {
             due("so much", x.turn(0, 60, 2), 20);
         }
         due("of several the least", on("plateau 3 9;person 4 0 3").turn(0, 60, 0), 0);
+        due("no fifth way", by("plateau 3 9;person 4 0 3;mill 1 20", "whim faces - 3").turn(0, 60, 2), 0);
         due("the last person", on(FULL).turn(5, 1, 0), 0);
         due("no seventh", on(FULL).turn(6, 1, 0), -1);
         due("nobody", on("plateau 2 1").turn(0, 1, 0), -1);
@@ -217,6 +220,27 @@ public final class BoundariesOfQuestions extends Bench {
         due("no fifth", on(FULL).takes(5, 4, 1, 1), -1);
         due("nobody", on("plateau 2 1;mill 0 1").takes(0, 0, 1, 1), -1);
         due("no mill", on("plateau 2 1;person 0 0 0").takes(0, 0, 1, 1), -1);
+    }
+
+    /** It is the PERSON asked about whose CELL, way or URGE is another, the last one too. */
+    private static void lastPerson() {
+        WhimWind x = by("plateau 3 9" + many(";person 4 0 0", 5) + ";person 4 0 3;mill 7 20", "whim 1 if person = 5");
+        promise = 20;
+        due("the last one's cell", x.stand(5, 1, 0), 8);
+        due("so much", x.stand(5, 1, 2), 1);
+        due("another's", x.stand(4, 1, 0), 0);
+        due("so much", x.stand(4, 1, 2), 0);
+        promise = 21;
+        due("the last one's way", x.turn(5, 1, 0), 2);
+        due("so much", x.turn(5, 1, 2), 1);
+        due("another's", x.turn(0, 1, 0), 0);
+        due("so much", x.turn(0, 1, 2), 0);
+        promise = 22;
+        x.face(5, 2);
+        due("the last one's urge", x.takes(5, 0, 3, 1), 2);
+        due("another's", x.takes(0, 0, 3, 1), -2);
+        promise = 24;
+        due("whoever gives way or not", x.still(1, 0), -1);
     }
 
     // ---- promises 23 to 27
@@ -364,6 +388,36 @@ public final class BoundariesOfQuestions extends Bench {
         due("none", none.rests(0, 1, 2, 0), 0);
         due("there is none", none.rests(0, 1, 2, 1), -2);
         due("there is none", none.rests(0, 1, 2, 2), -2);
+    }
+
+    /** What one has may lie with the other's way: then it is that way, as it is, by which theirs are compared. */
+    private static void restsOfWind() {
+        promise = 27;
+        WhimWind all = by("plateau 2 1;person 0 0 1;person 1 0 3", "whim 1");
+        due("each has as much by any way", all.rests(0, 1, 20, 0), 16);
+        due("the first", all.rests(0, 1, 20, 1), 0);
+        due("the first", all.rests(0, 1, 20, 2), 0);
+        // Person 1 has most by way 0, and then there is no wind for person 0, who would have most in it by way 2.
+        String rule = "whim 1 if hour = 0;whim 1 if person = 0 and wind > 0 and faces = 2;"
+            + "whim 1 if person = 1 and faces = 0";
+        WhimWind left = by("plateau 2 9;person 0 0 1;person 1 0 3", rule);
+        WhimWind right = by("plateau 2 9;person 1 0 3;person 0 0 1", rule);
+        for (WhimWind x : new WhimWind[] {left, right}) {
+            due("any way of one, way 0 of the other", x.rests(0, 1, 2, 0), 4);
+            due("the first", x.rests(0, 1, 2, 1), 0);
+            due("the first", x.rests(0, 1, 2, 2), 0);
+            due("way 0 of one, any of the other", x.rests(1, 0, 2, 0), 4);
+            due("the first", x.rests(1, 0, 2, 1), 0);
+            due("the first", x.rests(1, 0, 2, 2), 0);
+        }
+        // Person 1 has most by the way in which there is wind for person 0.
+        WhimWind both = by("plateau 2 9;person 0 0 1;person 1 0 3", "whim 1 if hour = 0;"
+            + "whim 1 if person = 0 and wind > 0 and faces = 2;whim 1 if person = 1 and faces = 3");
+        due("one two", both.rests(0, 1, 2, 0), 1);
+        due("one", both.rests(0, 1, 2, 1), 2);
+        due("other", both.rests(0, 1, 2, 2), 3);
+        due("the other one first", both.rests(1, 0, 2, 1), 3);
+        due("then the one", both.rests(1, 0, 2, 2), 2);
     }
 
     // ---- promise 28

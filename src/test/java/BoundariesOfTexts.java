@@ -22,6 +22,7 @@ public final class BoundariesOfTexts extends Bench {
         ruleItems();
         ruleEnds();
         ruleMisplaced();
+        ruleAfterFault();
         ruleFull();
         force();
         finish();
@@ -326,6 +327,11 @@ public final class BoundariesOfTexts extends Bench {
         due("nothing can be undone", x.undo(), -2);
         due("images stay", x.back(1), 2);
         due("of the one there was", x.count(0), 3);
+        due("a fault behind people, mills and roofs", tellPlateau(x, FULL + "?"), -2 - at(FULL.length(), 0));
+        due("then nobody", tellPlateau(x, "plateau 2 1"), 0);
+        for (int what = 2; what < 5; what++) {
+            due("nor mills, nor roofs, count " + what, x.count(what), 0);
+        }
         WhimWind y = on("plateau 2 1");
         due("nobody", y.count(2), 0);
         due("an hour of nobody", y.hour(), 0);
@@ -488,6 +494,25 @@ public final class BoundariesOfTexts extends Bench {
         for (String word : new String[] {"if", "and", "or", "not", "whim", "plateau", "mill", "roof", "x"}) {
             ruleRefuses("whim " + word, 5, 0);
             ruleRefuses("whim 1 if 1 > " + word, 14, 0);
+        }
+    }
+
+    /** What a text at FAULT had told is nothing to the next one, whose number it doesn't take. */
+    private static void ruleAfterFault() {
+        promise = 5;
+        String deep = "whim 1 if " + many("[", 10) + "1=1" + many("]", 10);
+        String[] faulty = {"whim 1 if " + many("[", 10) + "1=1?", "whim 1 if " + many("not ", 10) + "1=?",
+            "whim 0" + many("-1", 59) + "?", "whim 0" + many(";whim 0", 11) + "?", "whim 0;whim 0;whim ?",
+            "whim 1 if not 1=1 and ?", "whim 0 if 1=1 or [1=1 and 1+1*?"};
+        String[] sound = {"whim 1", "whim 1 if 1=1", deep, "whim 1" + many("+1", 59), "whim 1" + many(";whim 0", 11)};
+        for (String first : faulty) {
+            for (String then : sound) {
+                WhimWind x = on("plateau 2 1;person 0 0 1");
+                due("at fault: " + first, tellRule(x, first) < -2 ? 1 : 0, 1);
+                due(then + " behind " + first, tellRule(x, then), 0);
+                x.force(0);
+                due(then + " as it says, behind " + first, x.hour(), 1);
+            }
         }
     }
 
