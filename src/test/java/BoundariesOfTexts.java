@@ -22,6 +22,9 @@ public final class BoundariesOfTexts extends Bench {
         ruleItems();
         ruleEnds();
         ruleMisplaced();
+        ruleBytes();
+        ruleWords();
+        plateauBytes();
         ruleAfterFault();
         ruleFull();
         force();
@@ -494,6 +497,88 @@ public final class BoundariesOfTexts extends Bench {
         for (String word : new String[] {"if", "and", "or", "not", "whim", "plateau", "mill", "roof", "x"}) {
             ruleRefuses("whim " + word, 5, 0);
             ruleRefuses("whim 1 if 1 > " + word, 14, 0);
+        }
+    }
+
+    private static final String DIGITS = "0123456789";
+
+    /** The answer to a RULE of the text with a byte behind it: sound, at FAULT at its end, or at the byte. */
+    private static void ruleByte(String text, int b, String sound, String open) {
+        boolean isSound = sound.indexOf(b) >= 0;
+        int place = open.indexOf(b) >= 0 ? text.length() + 1 : text.length();
+        due(text + " and byte " + b, tellRule(new WhimWind(), text + (char) b), isSound ? 0 : -2 - at(place, 0));
+    }
+
+    /** Every byte in every kind of place of a RULE. */
+    private static void ruleBytes() {
+        promise = 5;
+        for (int b = 0; b < 256; b++) {
+            ruleByte("", b, "", " ");
+            ruleByte("whim ", b, DIGITS, " ");
+            ruleByte("whim 1", b, DIGITS + " ", "+-*/%;");
+            ruleByte("whim 1 ", b, " ", "+-*/%;");
+            ruleByte("whim urge+", b, DIGITS, " ");
+            ruleByte("whim 1 if ", b, "", DIGITS + " [");
+            ruleByte("whim 1 if 1", b, "", DIGITS + " +-*/%<=>");
+            ruleByte("whim 1 if 1<", b, DIGITS, " =");
+            ruleByte("whim 1 if 1=", b, DIGITS, " ");
+            ruleByte("whim 1 if 1>=", b, DIGITS, " ");
+            ruleByte("whim 1 if 1=1", b, DIGITS + " ", "+-*/%;");
+            ruleByte("whim 1 if [1=1]", b, " ", ";");
+            ruleByte("whim 1 if [[1=1]", b, "]", " ");
+            ruleByte("whim 1;", b, "", " ");
+        }
+    }
+
+    /** Every word that is known somewhere, and one that is nowhere, in every kind of place of a RULE. */
+    private static void ruleWords() {
+        promise = 5;
+        String[] words = {"person", "urge", "steady", "faces", "row", "column", "wind", "acted", "since", "ground", "off",
+            "hour", "if", "and", "or", "not", "whim", "plateau", "mill", "roof", "x", "breeze"};
+        for (int i = 0; i < words.length; i++) {
+            String word = words[i];
+            if (!word.equals("whim")) {
+                ruleRefuses(word + " 1", 0, 0);
+                ruleRefuses("whim 1;" + word + " 1", 7, 0);
+            }
+            if (!word.equals("if")) {
+                ruleRefuses("whim 1 " + word + " 1", 7, 0);
+            }
+            if (!word.equals("and") && !word.equals("or")) {
+                ruleRefuses("whim 1 if 1=1 " + word + " 1=1", 14, 0);
+                ruleRefuses("whim 1 if [1=1] " + word + " 1=1", 16, 0);
+            }
+            ruleRefuses("whim 1 if 1 " + word + " 1", 12, 0);
+            if (i >= 12) {
+                ruleRefuses("whim " + word + " 1", 5, 0);
+                ruleRefuses("whim 1 if 1=" + word + " 1", 12, 0);
+            }
+            if (i >= 12 && !word.equals("not")) {
+                ruleRefuses("whim 1 if " + word + " 1=1", 10, 0);
+            }
+        }
+    }
+
+    /** Every byte in every kind of place of a PLATEAU. */
+    private static void plateauBytes() {
+        promise = 4;
+        for (int b = 0; b < 256; b++) {
+            boolean isDigit = DIGITS.indexOf(b) >= 0;
+            int kind = isDigit ? 1 : 0;
+            int side = b == ' ' || b >= '2' && b <= '6' ? at(9, 0) : at(8, kind);
+            due("for a side, byte " + b, tellPlateau(new WhimWind(), "plateau " + (char) b), -2 - side);
+            int behind = b == ';' ? at(12, 0) : isDigit ? at(10, 1) : at(11, 0);
+            due("behind a catch, byte " + b, tellPlateau(new WhimWind(), "plateau 2 1" + (char) b),
+                b == ' ' ? 0 : -2 - behind);
+            int clause = b == ' ' ? at(13, 0) : at(12, 0);
+            due("for a clause, byte " + b, tellPlateau(new WhimWind(), "plateau 2 1;" + (char) b), -2 - clause);
+            int first = b == ' ' ? at(1, 0) : at(0, 0);
+            due("for all, byte " + b, tellPlateau(new WhimWind(), "" + (char) b), -2 - first);
+        }
+        for (String word : new String[] {"person", "plateau", "mill", "roof", "whim", "urge", "x", "breeze"}) {
+            plateauRefuses("plateau " + word + " 1", 8, 0);
+            plateauRefuses("plateau 2 " + word, 10, 0);
+            plateauRefuses("plateau 2 1 " + word + " 0 0 0", 12, 0);
         }
     }
 
