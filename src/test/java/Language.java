@@ -143,7 +143,7 @@ public final class Language {
     }
 
     private static void everyCall(WhimWind x) {
-        // plateau 3 2;person 3 2 1;person 5 3 3;mill 4 3;mill 5 5;roof 4 2
+        // plateau 3 2;person 3 2 1;person 5 4 3;mill 4 3;mill 5 9;roof 4 2
         x.feed(1886151028, 1700885792, 857748027, 1885696627, 1869488179);
         x.feed(540155953, 997221746, 1936682528, 891302944, 859532649);
         x.feed(1819025460, 540228461, 1768713248, 891304251, 1919905638);
